@@ -1042,12 +1042,14 @@ public final class CordPens {
         private void drawHatch(int s) {
             int x1 = script.get(s, 0);
             int x2 = script.get(s, 2);
-            int bottom = script.get(s, 3);
+            int y1 = script.get(s, 1);
             int gap = Math.max(script.get(s, 4), 1);
-            boolean back = false;
-            for (int y = script.get(s, 1); y <= bottom && !full; y += gap) {
-                drawLine(back ? x2 : x1, y, back ? x1 : x2, y);
-                back = !back;
+            // Of LINES above or below the WINDOW nothing is left: they count for the turns alone.
+            int above = Math.max(windowTop - shiftY - y1, 0);
+            int bottom = Math.min(script.get(s, 3), windowBottom - shiftY);
+            for (int i = (above + gap - 1) / gap; y1 + i * gap <= bottom && !full; i++) {
+                boolean isBack = i % 2 == 1;
+                drawLine(isBack ? x2 : x1, y1 + i * gap, isBack ? x1 : x2, y1 + i * gap);
             }
         }
 
