@@ -269,6 +269,23 @@ public final class PromisesTest {
         drawn(times(59, "to 1 1;") + "again 0 0 0 (to 1 1;)", two + "426");
         drawn(times(60, "to 1 1;") + "tu 1 1;", one + "420");
         drawn(times(60, "to 1 1;") + "form", two + "420");
+        // Each number of each S at its greatest, then one beyond.
+        String[][] greatest = {{"form a", "99 99"}, {"form a 1 1;put a", "999 999 99"}, {"line", "999 999 999 999"}, {"to", "999 999"},
+            {"hatch", "999 999 999 999 99"}, {"clip", "998 998 999 999"}, {"again", "99 999 999"}};
+        for (String[] g : greatest) {
+            String end = g[0].equals("again") ? "()" : ";";
+            drawn(g[0] + " " + g[1] + end, "");
+            String[] numbers = g[1].split(" ");
+            int at = g[0].length() + 1;
+            for (int i = 0; i < numbers.length; i++) {
+                String[] more = numbers.clone();
+                more[i] = numbers[i].length() == 2 ? "100" : "1000";
+                drawn(g[0] + " " + String.join(" ", more) + end, two + at);
+                at += numbers[i].length() + 1;
+            }
+        }
+        drawn("form az 0 0 1 0;put az 5 5 1;", "5,5 6,5-");
+        drawn("form az 0 0 1 0;put aa 5 5 1;", "FAULT 4 at 20");
         drawn("form a 1 1;form b 1 1;form a 1;", "FAULT 3 at 27");
         drawn("form ab 1 1;form a 1 1;put b 1 1 1;", "FAULT 4 at 27");
         drawn("put a 1 1 1;form a 1 1;", "FAULT 4 at 4");
@@ -387,6 +404,8 @@ public final class PromisesTest {
         CordPens x = sixty("line 0 80 60 80;line 30 40 30 16;");
         row("fewer parts are worse", "1 2 3 7 37", x.parts(1, 485), x.parts(1, 484), x.parts(1, 120), x.parts(1, 60), x.parts(1, 50));
         row("in none", "-1 -1", x.parts(1, 45), x.parts(1, 0));
+        due("in 64", sixty("line 6 91 9 4;").parts(1, 52), 64);
+        due("in 65, so in none", sixty("line 18 21 38 93;").parts(1, 65), -1);
         due("straight down", x.parts(3, 0), 1);
         row("no such ones", "-1 -1 -1", x.parts(4, 9), x.parts(-1, 9), x.parts(1, -1));
         due("any", x.parts(1, Integer.MAX_VALUE), 1);
@@ -403,6 +422,8 @@ public final class PromisesTest {
         due("more than v", between, greatest - 1);
         row("ends", "0 -1", x.skips(Integer.MAX_VALUE), x.skips(-1));
         due("without MOVES", new CordPens().skips(0), 0);
+        x = sixty("line 30 100 30 40;");
+        row("MOVE 0 may be down", "1 108 108", x.count(6), x.ticks(1), x.skips(0));
         x = sixty("to 30 40;");
         due("up alone", x.skips(0), 0);
         x = sixty("line 0 80 60 80;");
@@ -421,6 +442,13 @@ public final class PromisesTest {
         row("from then on", x.place(109, 109, 1) + " " + x.place(77, 77, 1) + " " + x.place(109, 100, 1), x.real(0, 1), x.real(1, 1), x.real(2, 1));
         due("in place of those told ahead", x.miss(0, 0, 0) && x.miss(0, 1, 0) && x.miss(2, 1, 0), true);
         row("none now", "4000 1600 4000", x.real(0, 1), x.real(1, 1), x.real(2, 1));
+        String full = "again 75 0 0 (line 30 40 30 16;)";
+        x = sixty(full);
+        due("of the last MOVE, too", x.miss(149, 1, -9) && x.miss(149, 0, 9), true);
+        due("it counts", x.real(149, 0), x.place(77, 59, 0));
+        draw(x, full);
+        due("it is gone with the next DRAWING", x.real(149, 0), 3000);
+        x = sixty("line 30 40 30 16;line 30 16 30 40;");
         boolean[] none = {x.miss(3, 0, 1), x.miss(-1, 0, 1), x.miss(0, 2, 1), x.miss(0, -1, 1), x.miss(0, 0, 10), x.miss(0, 0, -10)};
         for (boolean b : none) due("no such ones", b, false);
     }
@@ -469,6 +497,12 @@ public final class PromisesTest {
         // Between the PLACES of (1, 0) and (0, -1): both cost one, the lesser l is taken.
         x.seen(0, (x.place(101, 100, 0) + x.place(100, 99, 0)) / 2, (x.place(101, 100, 1) + x.place(100, 99, 1)) / 2);
         row("of several the least l", "1 0 -1", x.found(32, 0), x.found(32, 1), x.found(32, 2));
+        for (int[] lr : new int[][] {{5, 0}, {-5, 0}, {0, 5}, {0, -5}, {6, 6}, {-6, -6}, {6, -6}, {-6, 6}}) {
+            x.forget();
+            int left = 100 + lr[0], right = 100 + lr[1];
+            x.seen(0, x.place(left, right, 0), x.place(left, right, 1));
+            row("each way", (Math.abs(lr[0]) + Math.abs(lr[1])) + " " + lr[0] + " " + lr[1], x.found(0, 0), x.found(0, 1), x.found(0, 2));
+        }
         x.forget();
         x.seen(0, Integer.MIN_VALUE, Integer.MAX_VALUE);
         due("far away", x.found(999, 0), -2);
@@ -519,6 +553,15 @@ public final class PromisesTest {
         draw(x, "to 0 5;");
         // The pen at (0, 5) is 23 from the straight line through (30, 0) and (90, 50), but 30.4 from the hook.
         row("and at the hook", "1 0", x.clear(30, 30, 1, 1), x.clear(30, 31, 1, 1));
+        x = sixty("to 48 14;");
+        x.other();
+        draw(x, "to 30 40;");
+        due("both just 50 from the hook that they share", x.clear(60, 50, 1, 1), 1);
+        x = sixty("to 60 80;");
+        x.other();
+        draw(x, "to 30 60;");
+        // 3600 by 100 from the cord from (30, 0) to (90, 80).
+        row("just so far", "1 0", x.clear(30, 36, 1, 1), x.clear(30, 37, 1, 1));
         x = sixty("to 50 50;");
         x.other();
         draw(x, "to 30 60;");
@@ -535,6 +578,9 @@ public final class PromisesTest {
         due("HOMES are too near", x.together(1, 50), -2);
         draw(x, "");
         due("the other one alone", x.together(60, 0), 140);
+        x = sixty("again 75 0 0 (line 30 40 30 16;)");
+        x.other();
+        due("150 of each", x.together(60, 0), 108 + 149 * 32);
         due("without MOVES, and not CLEAR", new CordPens().together(1, 50), -2);
         x = new CordPens();
         x.wall(40, 40, 2);
@@ -558,6 +604,15 @@ public final class PromisesTest {
         row("no such ones", "-1 -1 -1 -1", x.joint(0, 30, 0), x.joint(61, 30, 0), x.joint(10, 30, 4), x.joint(10, 30, -1));
         draw(x, "to 30 5;to 30 6;line 30 7 30 8;line 30 8 31 9;");
         row("MOVES that are up don't count, a corner does twice", "3 25 22", x.joint(10, 30, 0), x.joint(10, 30, 1), x.joint(10, 30, 2));
+        // 150 MOVES that are down from HOME on, and 149 behind one that is up.
+        String fromHome = "again 75 0 0 (line 30 100 30 99;line 30 99 30 100;)", fromTwenty = "again 75 0 0 (line 20 90 20 99;line 20 99 20 90;)";
+        x = sixty(fromTwenty);
+        x.other();
+        draw(x, fromHome);
+        row("all ends, the first one's more", "298 " + (149 * 9 + 148) + " 9 2", x.joint(10, 30, 0), x.joint(10, 30, 1), x.joint(10, 30, 2), x.joint(10, 30, 3));
+        x.other();
+        draw(x, fromTwenty.replace("20", "40"));
+        row("all ends, the other one's more", "298 " + (149 * 9 + 148) + " 9 2", x.joint(10, 40, 0), x.joint(10, 40, 1), x.joint(10, 40, 2), x.joint(10, 40, 3));
     }
 
     private static void p27Mark() {
@@ -579,6 +634,9 @@ public final class PromisesTest {
         x.mark(0, 0, 5, 5); x.mark(7, 7, 12, 12); x.mark(0, 0, 5, 8);
         row("most", "5 5 2", x.offset(0, 0), x.offset(0, 1), x.offset(0, 2));
         row("of several the least", "3 6 3", x.offset(2, 0), x.offset(2, 1), x.offset(2, 2));
+        CordPens low = new CordPens();
+        low.mark(0, 0, -20, 20);
+        row("dy, too, goes to 20", "-20 20 1", low.offset(0, 0), low.offset(0, 1), low.offset(0, 2));
         x.mark(Integer.MIN_VALUE, 0, Integer.MAX_VALUE, 0);
         due("far apart", x.offset(99, 2), 5);
         row("no such ones", times(4, MIN + " ").trim(), x.offset(-1, 0), x.offset(100, 0), x.offset(0, 3), x.offset(0, -1));
