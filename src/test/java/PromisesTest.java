@@ -1,74 +1,8 @@
-import java.util.NoSuchElementException;
-
 /**
  * Each promise by itself: ordinary calls, the edges that the document names, wrong calls. Most of it hangs on a
  * wall of 60 by 100 at 2 STEPS a unit, where the places (30, 40), (0, 80) and (60, 80) are whole STEPS from both hooks.
  */
-public final class PromisesTest {
-    private static final int MIN = Integer.MIN_VALUE;
-    private static int checks = 0;
-    private static int wrong = 0;
-    private static String promise = "";
-
-    private static void due(String call, long got, long want) {
-        checks++;
-        if (got != want) {
-            wrong++;
-            System.out.println(promise + ": " + call + " answered " + got + ", due is " + want);
-        }
-    }
-
-    private static void due(String call, boolean got, boolean want) { due(call, got ? 1 : 0, want ? 1 : 0); }
-
-    /** Answers in a row, as a text. */
-    private static void row(String call, String want, int... got) {
-        checks++;
-        StringBuilder s = new StringBuilder();
-        for (int g : got) s.append(s.length() > 0 ? " " : "").append(g);
-        if (!s.toString().equals(want)) {
-            wrong++;
-            System.out.println(promise + ": " + call + " answered " + s + ", due is " + want);
-        }
-    }
-
-    private static void load(CordPens x, String text) {
-        StringBuilder s = new StringBuilder(text);
-        while (s.length() % 20 != 0) s.append(' ');
-        for (int i = 0; i < s.length(); i += 20) {
-            int[] n = new int[5];
-            for (int j = 0; j < 20; j++) n[j / 4] = n[j / 4] << 8 | s.charAt(i + j);
-            x.feed(n[0], n[1], n[2], n[3], n[4]);
-        }
-    }
-
-    private static int draw(CordPens x, String text) { load(x, text); return x.draw(text.length()); }
-
-    private static CordPens sixty() { CordPens x = new CordPens(); x.wall(60, 100, 2); return x; }
-
-    private static CordPens sixty(String text) { CordPens x = sixty(); draw(x, text); return x; }
-
-    /** The MOVES as a text: where each one goes, with a stroke behind if it is down. */
-    private static String moves(CordPens x) {
-        StringBuilder s = new StringBuilder();
-        for (int m = 0; m < x.count(6); m++) {
-            s.append(m > 0 ? " " : "").append(x.look(m, 0)).append(',').append(x.look(m, 1)).append(x.look(m, 2) == 1 ? "-" : "");
-        }
-        return s.toString();
-    }
-
-    private static void drawn(String text, String want) {
-        checks++;
-        CordPens x = sixty();
-        int n = draw(x, text);
-        String got = n < 0 ? "FAULT " + x.fault(0) + " at " + x.fault(1) : moves(x) + (x.fault(2) == 1 ? " FULL" : "");
-        if (!got.equals(want)) {
-            wrong++;
-            System.out.println(promise + ": '" + text + "' became " + got + ", due is " + want);
-        }
-    }
-
-    private static String times(int n, String text) { return text.repeat(n); }
-
+public final class PromisesTest extends Checks {
     private static void p1NewObject() {
         CordPens x = new CordPens();
         row("count", "100 100 4 0 1 9999 0 0 0 0", x.count(0), x.count(1), x.count(2), x.count(3), x.count(4), x.count(5), x.count(6), x.count(7), x.count(8), x.count(9));
@@ -301,23 +235,12 @@ public final class PromisesTest {
         CordPens x = sixty("line 0 80 60 80;");
         row("MOVE 0", "0 80 0 48 160 200", x.look(0, 0), x.look(0, 1), x.look(0, 2), x.look(0, 3), x.look(0, 4), x.look(0, 5));
         row("MOVE 1", "60 80 1 40 200 160", x.look(1, 0), x.look(1, 1), x.look(1, 2), x.look(1, 3), x.look(1, 4), x.look(1, 5));
-        due("look(2, 0)", thrown(x, 2, 0), 1);
-        due("look(-1, 0)", thrown(x, -1, 0), 1);
-        due("look(2, 9)", thrown(x, 2, 9), 1);
-        due("look(1, 6)", thrown(x, 1, 6), 2);
-        due("look(1, -1)", thrown(x, 1, -1), 2);
-        due("look(max)", thrown(x, Integer.MAX_VALUE, 0), 1);
-    }
-
-    private static int thrown(CordPens x, int move, int what) {
-        try {
-            x.look(move, what);
-            return 0;
-        } catch (IndexOutOfBoundsException e) {
-            return 1;
-        } catch (NoSuchElementException e) {
-            return 2;
-        }
+        due("look(2, 0)", look(x, 2, 0), NO_MOVE);
+        due("look(-1, 0)", look(x, -1, 0), NO_MOVE);
+        due("look(2, 9)", look(x, 2, 9), NO_MOVE);
+        due("look(1, 6)", look(x, 1, 6), NO_WHAT);
+        due("look(1, -1)", look(x, 1, -1), NO_WHAT);
+        due("look(max)", look(x, Integer.MAX_VALUE, 0), NO_MOVE);
     }
 
     private static void p8Steps() {
@@ -375,8 +298,10 @@ public final class PromisesTest {
         x.set(2, 1);
         due("none", x.reach(), 0);
         x.set(2, 70);
+        Oracle o = new Oracle();
+        o.wall(60, 100, 2); o.set(1, 99); o.set(2, 70);
         int sum = 0;
-        for (int i = 0; i <= 60; i++) for (int y = 1; y <= 100; y++) sum += x.pull(i, y, 2);
+        for (int i = 0; i <= 60; i++) for (int y = 1; y <= 100; y++) sum += o.pull(i, y, 2);
         due("as pull says", x.reach(), sum);
         due("some", sum > 0 && sum < 6100, true);
         x.set(0, 99);
@@ -710,10 +635,9 @@ public final class PromisesTest {
         String[] names = {"1", "2", "3", "4", "5", "5 (texts)", "6", "7", "8", "9", "10", "11", "12", "13", "14", "15", "16", "17", "18", "19", "20", "21",
             "22", "23", "24", "25", "26", "27", "28", "29", "30", "31", "32"};
         for (int i = 0; i < all.length; i++) {
-            promise = "promise " + names[i];
+            about = "promise " + names[i];
             all[i].run();
         }
-        System.out.println("PromisesTest: " + checks + " checks, " + wrong + " wrong");
-        if (wrong > 0) System.exit(1);
+        end("PromisesTest: ");
     }
 }
