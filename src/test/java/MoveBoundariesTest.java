@@ -82,6 +82,14 @@ public final class MoveBoundariesTest extends Checks {
         row("no TICK in any part", "0 1", x.look(1, 3), x.parts(1, 0));
     }
 
+    @Says("the greatest distance, over all TICKS of all")
+    private static void d3PartsUpToTheLastTick() {
+        // The PLACE at its end is 15 from the told line, those ahead of it 5 at most, and no part brings it nearer.
+        CordPens x = sixty("line 0 5 1 5;");
+        row("the PLACE at last", "485", x.place(x.look(1, 4), x.look(1, 5), 1));
+        row("15 is enough, 14 isn't", "1 -1", x.parts(1, 15), x.parts(1, 14));
+    }
+
     /** Read so: "behind TICK 0" is a place of the MOVE, too, and what it was may lie off the line of its told places. */
     @Says("the greatest distance, over all TICKS of all, from the straight line of its told places")
     private static void d3PartsFromTick0On() {
@@ -104,6 +112,18 @@ public final class MoveBoundariesTest extends Checks {
         row("one less than the greatest, the greatest", "1 0", x.skips(most - 1) > 0 ? 1 : 0, x.skips(most));
         row("of MOVES that are up none", "0", sixty("to 30 40;to 30 16;").skips(0));
         row("TICKS between MOVES: none, MOVE 0 down: all", "108", sixty("line 30 100 30 40;").skips(0));
+    }
+
+    @Says("TICKS of MOVES that are down in which X and Y of the PLACE change by more than v together")
+    private static void d4OneTickAndNone() {
+        CordPens x = sixty("line 3 8 3 9;");
+        int change = Math.abs(x.real(1, 0) - x.real(0, 0)) + Math.abs(x.real(1, 1) - x.real(0, 1));
+        row("of one TICK", "1 1 0", x.look(1, 3), x.skips(change - 1), x.skips(change));
+        row("without a TICK", "0", wide("to 100 1;line 100 1 100 2;line 100 2 100 3;").skips(0));
+        x = sixty(HUNDRED_FIFTY);
+        row("of 150", 75 * 32 + "", x.skips(0));
+        draw(x, "line 30 40 30 16;");
+        row("of a shorter DRAWING behind a longer one", "32 32 140", x.skips(0), x.ticks(1), x.ticks(0));
     }
 
     @Says("TICKS of MOVES that are down in which X and Y of the PLACE change by more than v together")
@@ -163,6 +183,34 @@ public final class MoveBoundariesTest extends Checks {
             sees(x, 0, 100 + lr[0], 100 + lr[1]);
             finds("7", x, 0, "-2 -2 -2");
         }
+    }
+
+    @Says("how many STEPS (l, r; each -6 .. 6) there are more by then")
+    private static void d7FromEdgeToEdge() {
+        // From each pair of STEPS at the edge to each other one: nothing leads beyond it.
+        for (int l1 = -6; l1 <= 6; l1++) for (int r1 = -6; r1 <= 6; r1 += Math.abs(l1) == 6 ? 1 : 12) {
+            for (int l2 = -6; l2 <= 6; l2++) for (int r2 = -6; r2 <= 6; r2 += Math.abs(l2) == 6 ? 1 : 12) {
+                CordPens x = sixty(DOWN_UP);
+                sees(x, 0, 100 + l1, 100 + r1);
+                sees(x, 2, 100 + l2, 100 + r2);
+                int sum = Math.abs(l1) + Math.abs(r1) + Math.abs(l2 - l1) + Math.abs(r2 - r1);
+                row("edge to edge", sum + " " + l1 + " " + r1 + " " + l2 + " " + r2, x.found(0, 0), x.found(0, 1), x.found(0, 2), x.found(0, 3), x.found(0, 4));
+            }
+        }
+    }
+
+    @Says("FOUND with DOUBT D: for each CROSS how many STEPS")
+    private static void d7WhatWasFoundAheadDoesNotMatter() {
+        CordPens x = sixty("to 30 40;");
+        for (int l = -6; l <= 6; l += 6) for (int r = -6; r <= 6; r += 6) {
+            seesAgain(x, 0, 0, 0);
+            finds("nothing fits", x, 0, "-2 -2 -2");
+            x.forget();
+            sees(x, 0, 100 + l, 100 + r);
+            finds("then " + l + ", " + r, x, 0, (Math.abs(l) + Math.abs(r)) + " " + l + " " + r);
+        }
+        x.forget();
+        row("then no CROSS", "0 3000", x.found(0, 0), x.mended(0, 0, 0));
     }
 
     @Says("so that PLACE of its STEPS and those is D away at most in X and in Y")
@@ -419,6 +467,21 @@ public final class MoveBoundariesTest extends Checks {
         row("the latest one below it", x.place(71, 68, 0) + " 3000", x.mended(3, 0, 0), x.mended(4, 0, 0));
     }
 
+    @Says("what was FOUND there with DOUBT D is taken off: what 0 X, 1 Y")
+    private static void p22BothCords() {
+        CordPens x = sixty(DOWN_UP);
+        x.miss(0, 0, -2); x.miss(0, 1, 4);
+        sees(x, 0, 98, 104);
+        row("both are taken off", "3000 1600", x.mended(1, 0, 0), x.mended(1, 0, 1));
+        x.forget();
+        sees(x, 0, 100, 103);
+        // Seen otherwise than it truly is: what was FOUND, 0 and 3, is taken off of -2 and 4.
+        row("as FOUND, not as MISSED", x.place(66, 69, 0) + " " + x.place(66, 69, 1), x.mended(1, 0, 0), x.mended(1, 0, 1));
+        x.forget();
+        x.seen(0, 2950, 4050);
+        row("with 100 of DOUBT nothing was FOUND", x.real(1, 0) + " " + x.real(1, 1), x.mended(1, 100, 0), x.mended(1, 100, 1));
+    }
+
     @Says("Integer.MIN_VALUE: no such ones, nothing fits.")
     private static void p22NoSuchOnes() {
         CordPens x = sixty(DOWN_UP);
@@ -452,6 +515,20 @@ public final class MoveBoundariesTest extends Checks {
         CordPens x = sixty();
         x.begin();
         row("at HOME and at its end", "0 0 3000 1 0 0", x.run(0), x.run(1), x.run(2), x.run(4), x.tick(0), x.tick(100000));
+    }
+
+    /** Read so: a MOVE without a TICK is over as the RUN begins, and what it MISSED counts. */
+    @Says("A RUN begins: the pen is at HOME, no TICK is done.")
+    private static void p29FirstMovesWithoutTicks() {
+        CordPens x = on(200, 20, 2, "to 100 19;to 100 1;");
+        row("TICKS", "0 3", x.look(0, 3), x.look(1, 3));
+        x.miss(0, 0, 3);
+        x.begin();
+        int left = x.steps(10000, 2000, 0), right = x.steps(10000, 2000, 1);
+        row("past the first one", "1 0 " + x.place(left + 3, right, 0) + " 0 0", x.run(0), x.run(1), x.run(2), x.run(4), x.tick(0));
+        x = on(200, 20, 2, "to 100 19;");
+        x.begin();
+        row("at its end at once", "1 0 1 0", x.run(0), x.run(1), x.run(4), x.tick(100000));
     }
 
     @Says("TICKS of the RUN (0 .. 100000), MOVE behind MOVE, MISSED ones, too: how many are done in all")

@@ -69,6 +69,17 @@ public final class PairBoundariesTest extends Checks {
         clearBy("the left cord ends at the pen", pair("to 60 50;", "to 10 50;"), 1, 49);
     }
 
+    @Says("from each of its places, from (V, 0) or (W, 0) to the pen")
+    private static void e2JustBesideTheCordsEnds() {
+        // With V 60 both hooks are (60, 0). The first pen at (53, 24) is just 25 from it, but 24.9998 from the cord to (101, 12).
+        clearBy("the hook isn't the nearest place of the left cord", pair("to 53 24;", "to 41 12;"), 60, 24);
+        // Its mirror: the other pen at (67, 24), the right cord from (60, 0) to (19, 12).
+        clearBy("the hook isn't the nearest place of the right cord", pair("to 19 12;", "to 7 24;"), 60, 24);
+        // The pens at (20, 20) and (4, 8) are just 20 apart, each beyond the end of the other one's cord.
+        clearBy("the first pen is the lower one", pair("to 20 20;", "to 3 8;"), 1, 20);
+        clearBy("the other one is", pair("to 57 8;", "to 40 20;"), 1, 20);
+    }
+
     @Says("the first one's pen is at least D away from the other one's left cord")
     private static void e2OnTheCord() {
         // (50, 50) lies on the cord from (30, 0) to (70, 100).

@@ -21,6 +21,9 @@ public final class TextBoundariesTest extends Checks {
         fault("form abcdef 1 1;put abcdefg 1 1 1;", 1, 20);
         fault("form " + times(60, "x") + " 1 1;", 1, 5);
         sound("form az 1 1;form za 1 1;");
+        // A name ends where its letters do, whatever comes behind.
+        drawn("form ab1 1 2 2;put ab\n5 5 1;put ab7 7 1;", "6,6 7,7- 8,8 9,9-");
+        fault("form ab1 1;form ab 1 1;", 3, 16);
         fault("form Ab 1 1;", 1, 5);
         fault("form aB 1 1;", 1, 6);
         fault("form a{ 1 1;", 1, 6);
@@ -50,6 +53,8 @@ public final class TextBoundariesTest extends Checks {
             fault(word.substring(0, word.length() - 1) + " 1 1;", 1, 0);
             fault(word.toUpperCase() + " 1 1;", 1, 0);
             fault(word.charAt(0) + " " + word.substring(1) + " 1 1;", 1, 0);
+            fault("z" + word.substring(1) + " 1 1;", 1, 0);
+            sound("form z" + word.substring(1) + " 1 1;put z" + word.substring(1) + " 1 1 1;");
         }
         fault("abcdefg 1 1;", 1, 0);
     }
@@ -363,6 +368,21 @@ public final class TextBoundariesTest extends Checks {
         sound("clip 5 8 6 9;");
     }
 
+    @Says("NONE with a FAULT, all stays")
+    private static void b6TheNextTextBeginsAnew() {
+        CordPens x = sixty();
+        row("five are open", "-1 1 65", draw(x, times(5, "again 1 0 0 (")), x.fault(0), x.fault(1));
+        drawnOn(x, "to 1 1;", "1,1");
+        draw(x, times(5, "again 1 0 0 ("));
+        drawnOn(x, ")", "FAULT 1 at 0");
+        draw(x, times(5, "again 1 0 0 ("));
+        drawnOn(x, times(5, "again 1 0 0 (") + "to 2 2;)))))", "2,2");
+        draw(x, times(60, "to 1 1;") + ",");
+        drawnOn(x, times(60, "to 1 1;"), "1,1");
+        draw(x, forms(8) + ",");
+        drawnOn(x, forms(8), "");
+    }
+
     @Says("FAULTS, the first along the text")
     private static void b6TheFirstAlongTheText() {
         fault("to 1000 ,;put z", 2, 3);
@@ -444,6 +464,12 @@ public final class TextBoundariesTest extends Checks {
         drawn("again 2 0 -998 (hatch 1 998 9 999 1;)", "9,1 1,1-");
     }
 
+    @Says("hatch x1 y1 x2 y2 gap")
+    private static void c3HatchAmongOthers() {
+        drawn("to 8 8;hatch 1 5 9 9 2;to 3 3;", "8,8 1,5 9,5- 9,7 1,7- 1,9 9,9- 3,3");
+        drawn("hatch 1 5 9 9 2;hatch 3 9 4 13 4;", "1,5 9,5- 9,7 1,7- 1,9 9,9- 3,9 4,9- 4,13 3,13-");
+    }
+
     @Says("each second one from x2 to x1")
     private static void c3HatchTurns() {
         drawn("hatch 9 1 1 4 1;", "9,1 1,1- 1,2 9,2- 9,3 1,3- 1,4 9,4-");
@@ -474,6 +500,20 @@ public final class TextBoundariesTest extends Checks {
         drawn("again 2 -1 0 (line 0 50 0 60;)", "0,50 0,60-");
         drawnOn(on(20, 20, 2), "line 0 10 999 10;line 10 0 10 999;", "0,10 20,10- 10,1 10,20-");
         drawnOn(on(200, 200, 2), "line 0 10 999 10;line 10 0 10 999;", "0,10 200,10- 10,1 10,200-");
+    }
+
+    @Says("(all of that at first")
+    private static void c5WindowAtFirstOfEachDrawing() {
+        CordPens x = sixty("clip 20 20 30 30;");
+        drawnOn(x, "to 0 1;to 60 100;to 0 100;to 60 1;", "0,1 60,100 0,100 60,1");
+        // One that was FULL amid an again leaves neither its WINDOW nor its SHIFT.
+        row("FULL in an again", "150 1", draw(x, "clip 2 2 50 50;again 99 9 9 (clip 5 5 9 9;again 99 0 0 (to 5 5;to 6 6;))"), x.fault(2));
+        drawnOn(x, "to 0 1;to 60 100;to 0 100;to 60 1;", "0,1 60,100 0,100 60,1");
+        row("FULL by S", "1 1", draw(x, "again 99 9 9 (clip 5 5 9 9;again 99 0 1 (to 5 5;to 5 5;))") > 0 ? 1 : 0, x.fault(2));
+        drawnOn(x, "to 0 1;to 60 100;to 0 100;to 60 1;", "0,1 60,100 0,100 60,1");
+        // So does one with a FAULT.
+        draw(x, "clip 20 20 30 30;again 9 1 1 (to 25 25;");
+        drawnOn(x, "to 0 1;to 60 100;", "0,1 60,100");
     }
 
     @Says("as far as that is in 0 .. W by 1 .. H")
@@ -528,6 +568,18 @@ public final class TextBoundariesTest extends Checks {
         drawn(clip + "line 0 7 20 7;line 7 20 7 0;", "5,7 10,7- 7,10 7,5-");
         // Only a corner is touched: both ends come to one place.
         drawn(clip + "line 0 10 10 0;", "5,5");
+    }
+
+    @Says("if both ends are beyond, nothing is left; if one is, it comes to the side")
+    private static void c6TheOtherEndIsOnTheSide() {
+        String clip = "clip 5 5 10 10;";
+        // What is on the side isn't beyond it: a place is left, and the pen goes there.
+        drawn(clip + "line 4 7 5 7;line 5 8 4 8;", "5,7 5,8");
+        drawn(clip + "line 11 7 10 7;line 10 8 11 8;", "10,7 10,8");
+        drawn(clip + "line 7 4 7 5;line 8 5 8 4;", "7,5 8,5");
+        drawn(clip + "line 7 11 7 10;line 8 10 8 11;", "7,10 8,10");
+        drawn(clip + "line 0 6 5 9;line 15 6 10 9;line 6 0 9 5;line 6 15 9 10;", "5,9 10,9 9,5 9,10");
+        drawn(clip + "line 5 9 0 6;line 10 9 15 6;line 9 5 6 0;line 9 10 6 15;", "5,9 10,9 9,5 9,10");
     }
 
     @Says("its other number being its own and (the other end's less its own) times (side less its first number) by (the other end's first less its own), cut towards 0")
@@ -658,6 +710,11 @@ public final class TextBoundariesTest extends Checks {
         row("MISSED", "3000 4000 3000 1600", x.real(0, 0), x.real(0, 1), x.real(1, 0), x.real(1, 1));
         row("CROSSES, RUN", "0 " + MIN + " -1", x.count(8), x.run(0), x.tick(0));
         row("PENS and the other one stay", "1 2", x.count(9), x.count(7));
+        String many = "again 75 0 0 (line 30 40 30 16;)";
+        draw(x, many);
+        for (int m : new int[] {0, 74, 75, 148, 149}) { x.miss(m, 0, 9); x.miss(m, 1, 9); }
+        draw(x, many);
+        row("MISSED of all 150", "3000 4000 3000 1600", x.real(148, 0), x.real(148, 1), x.real(149, 0), x.real(149, 1));
         x.miss(0, 0, 2); x.seen(0, 1, 1); x.begin();
         row("with an empty one, too", "0 0 " + MIN, x.draw(0), x.count(8), x.run(0));
     }

@@ -96,6 +96,9 @@ public final class WallBoundariesTest extends Checks {
         x.set(0, 99);
         // 101 99 is 9999, 102 99 is 10098: 101 hangs 101, 102 hangs 103; Y is the ROOT of 16502500 and of 17522500.
         row("101 and 101, 102 and 102", "3000 4062 3000 4185", x.place(101, 101, 0), x.place(101, 101, 1), x.place(102, 102, 0), x.place(102, 102, 1));
+        x.set(0, 50);
+        // 199 50 is 9950, 200 50 is just 10000: 199 hangs 199, 200 hangs 201.
+        row("just below one, just one", "9486 9591", x.place(199, 199, 1), x.place(200, 200, 1));
         x.set(0, 1);
         due("9999 by 10000 is none", x.place(9999, 0, 0), 20832166);
         x.set(0, 2);
@@ -198,6 +201,14 @@ public final class WallBoundariesTest extends Checks {
         row("below the left hook the right cord doesn't pull, and the other way round", "7 0 0 7", x.pull(0, 100, 0), x.pull(0, 100, 1), x.pull(60, 100, 0), x.pull(60, 100, 1));
     }
 
+    @Says("PULL of the cords at a place of whole units x, y")
+    private static void a9PullAtWholeUnits() {
+        CordPens x = on(60, 100, 20);
+        x.set(1, 99);
+        // LEFT at (30, 1) is 600: 99 600 30 by (20 60 1); at (30, 40) it is 1000: 99 1000 30 by (20 60 40) is 61.875.
+        row("high up, lower down", "1485 1485 61 61", x.pull(30, 1, 0), x.pull(30, 1, 1), x.pull(30, 40, 0), x.pull(30, 40, 1));
+    }
+
     @Says("It MAY be drawn if both are the LIMIT at most")
     private static void a9MayBeDrawnAtTheLimit() {
         CordPens x = sixty();
@@ -231,6 +242,16 @@ public final class WallBoundariesTest extends Checks {
         row("no MOVE", NO_MOVE + " -1 " + MIN, look(x, 0, 0), x.sag(0), x.real(0, 0));
         row("an empty TAPE", "-2 0", x.draw(1), x.draw(0));
         due("the first twenty", x.feed(0, 0, 0, 0, 0), 20);
+    }
+
+    @Says("THE WALL as at first")
+    private static void p01HomeOfANewObject() {
+        CordPens x = new CordPens();
+        // HOMES are (50, 100) and, with V 50, (100, 100): 5000 by the root of 12500 is 44.7 from each cord.
+        row("CLEAR of HOMES", "1 0 1", x.clear(50, 44, 0, 0), x.clear(50, 45, 0, 0), x.clear(100, 50, 0, 0));
+        x.begin();
+        // LEFT and RIGHT are 447: 10000 447 447 by 16 less 5000 5000 is 99880625.
+        row("the pen", "0 0 5000 9994 1", x.run(0), x.run(1), x.run(2), x.run(3), x.run(4));
     }
 
     @Says("no DRAWING (no MOVES)")
@@ -323,6 +344,22 @@ public final class WallBoundariesTest extends Checks {
         row("RUN, CROSSES", MIN + " -1 0", x.run(0), x.tick(0), x.count(8));
         row("no MISSED", x.place(x.look(0, 4), x.look(0, 5), 0) + "", x.real(0, 0));
         row("MOVES, the other one's, PENS stay", "2 2 1", x.count(6), x.count(7), x.count(9));
+    }
+
+    @Says("STRETCH (what 0;")
+    private static void p04StretchOfAllSteps() {
+        CordPens x = sixty("line 0 80 60 80;");
+        x.other();
+        row("without", "48 40 160 200 88", x.look(0, 3), x.look(1, 3), x.look(0, 4), x.look(0, 5), x.together(60, 0));
+        x.set(0, 99);
+        // 206 hang 208, 159 hang 160, 199 hang 200; one more of each is too much.
+        row("of MOVES", "47 40 159 199 199 159", x.look(0, 3), x.look(1, 3), x.look(0, 4), x.look(0, 5), x.look(1, 4), x.look(1, 5));
+        x.begin();
+        row("at HOME", "3000 " + x.place(206, 206, 1), x.run(2), x.run(3));
+        x.draw(0);
+        due("of the other one's MOVES, too", x.together(60, 0), 87);
+        x.set(0, 0);
+        due("and back", x.together(60, 0), 88);
     }
 
     @Says("WEIGHT (1), LIMIT (2): true")
@@ -426,9 +463,9 @@ public final class WallBoundariesTest extends Checks {
         x.set(0, 99);
         o.set(0, 99);
         due("anew with another STRETCH", x.reach(), o.reach());
-        x.wall(30, 20, 2);
+        x.set(0, 0);
         x.set(2, 9999);
-        due("anew on another WALL", x.reach(), 31 * 20);
+        row("all, and anew on another WALL", "420 620", x.reach(), x.wall(30, 20, 2) ? x.reach() : MIN);
     }
 
     // ---- Promise 32
